@@ -487,7 +487,6 @@ public final class ExcuseTariffs {
         int addExcuse(int kind, int worth) {
             kinds[excuses] = kind;
             worths[excuses] = worth;
-            usesInAllTerms[excuses] = 0;
             excuses++;
             return excuses - 1;
         }

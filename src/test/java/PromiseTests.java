@@ -27,6 +27,7 @@ public final class PromiseTests {
         endTermHalvesAndCaps();
         read();
         readRefusals();
+        readMinutes();
         excuse();
         pupil();
         novelty();
@@ -52,6 +53,7 @@ public final class PromiseTests {
         save();
         restore();
         restoreBringsEverythingBack();
+        restoreBringsTheListBack();
         System.out.println(wrong == 0 ? "all promises hold" : wrong + " answers are not as due");
         if (wrong != 0) {
             System.exit(1);
@@ -562,6 +564,33 @@ public final class PromiseTests {
         putText(y, "0am1,1am1,2am1,3am1,4am1,5am1,6am1,7am1,8am1,9am1,0bm1,1bm1");
         due("a whole pad", y.count(18), 59);
         due("twelve stamps", y.read(), 12);
+        y.endTerm();
+        putText(y, "0am1,1am1,2am1,3am1,4am1,5am1,6am1,7am1,8am1,9am1,0bm1,1bm31");
+        due("a full pad", y.count(18), 60);
+        due("twelve stamps", y.read(), 12);
+        due("31 minutes", y.pupil(0, 6), 1);
+    }
+
+    private static void readMinutes() {
+        promise = "promise 8";
+        ExcuseTariffs x = new ExcuseTariffs();
+        x.set(ExcuseTariffs.FINE, 1);
+        x.add(0, 1);
+        putText(x, "0am99,1am10,2am9,3am57,4am30");
+        due("no stamp", x.read(), 0);
+        int[] minutes = {99, 10, 9, 57, 30};
+        for (int p = 0; p < 5; p++) {
+            due("fine of " + p, x.pupil(p, 1), minutes[p]);
+        }
+        putText(x, "5am1,6am1");
+        x.wipe();
+        putText(x, "7am1");
+        due("no stamp", x.read(), 0);
+        due("one offer only", x.pupil(7, 3), 1);
+        due("nothing of the old text", x.count(10), 6);
+        putText(x, "8am1w9,8bm1,6am1");
+        due("no stamp", x.read(), 0);
+        due("the witness of one offer only", x.pupil(9, 0), 3);
     }
 
     // ---- promise 9
@@ -789,6 +818,16 @@ public final class PromiseTests {
         due("now", x.count(17), 1);
         x.endTerm();
         due("a new term", x.count(17), 0);
+        for (int e = 2; e < 12; e++) {
+            x.add(e % 5, 99);
+        }
+        due("twelve excuses, none worn out", x.count(17), 0);
+        x.set(ExcuseTariffs.WEARS, 50);
+        x.offer(8, 11, NONE, 1);
+        x.offer(0, 11, NONE, 1);
+        x.offer(2, 0, NONE, 1);
+        x.offer(4, 0, NONE, 1);
+        due("the first and the last", x.count(17), 2);
     }
 
     // ---- promise 15
@@ -839,6 +878,13 @@ public final class PromiseTests {
         due("two uses", x.bestExcuse(5, 1), 0);
         x.set(ExcuseTariffs.NEEDS, 90);
         due("minutes count", x.bestExcuse(5, 10), NONE);
+        ExcuseTariffs y = new ExcuseTariffs();
+        for (int e = 0; e < 12; e++) {
+            y.add(e % 5, 50 + e);
+        }
+        for (int p = 0; p < 10; p++) {
+            due("the last of twelve", y.bestExcuse(p, 1), 11);
+        }
     }
 
     // ---- promise 16
@@ -1310,6 +1356,27 @@ public final class PromiseTests {
         x.restore(1);
         due("slot 0", x.restore(0), 2);
         same("restored", picture(x), after);
+    }
+
+    private static void restoreBringsTheListBack() {
+        promise = "promise 23";
+        ExcuseTariffs x = new ExcuseTariffs();
+        x.save(1);
+        x.add(0, 50);
+        x.save(0);
+        x.undo();
+        due("another kind", x.add(3, 60), 0);
+        x.restore(0);
+        due("kind", x.excuse(0, 0), 0);
+        due("worth", x.excuse(0, 1), 50);
+        due("undo", x.undo(), 1);
+        due("kind", x.excuse(0, 0), 3);
+        x.offer(0, 0, NONE, 1);
+        due("slot 1", x.restore(1), 0);
+        due("no excuse", x.excuse(0, 0), NO_SUCH);
+        due("add", x.add(3, 60), 0);
+        due("uses in all terms", x.excuse(0, 3), 0);
+        due("users", x.excuse(0, 4), 0);
     }
 
     /** All that can be asked of an object, but for its pad and its history. */
