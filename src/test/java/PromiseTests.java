@@ -1,11 +1,7 @@
+import java.util.function.Consumer;
+
 /** Tests of each promise of the document, with answers worked out by hand from its words. */
-public final class PromiseTests {
-    private static final int NO_SUCH = -1, BAD_VALUE = -2, BAD_TEXT = -3, TOO_MANY = -4, NOT_POSSIBLE = -5, NONE = -6;
-    private static final int MIN = Integer.MIN_VALUE, MAX = Integer.MAX_VALUE;
-
-    private static int wrong = 0;
-    private static String promise = "";
-
+public final class PromiseTests extends Checks {
     public static void main(String[] args) {
         newObject();
         newObjectsShareNothing();
@@ -54,23 +50,13 @@ public final class PromiseTests {
         restore();
         restoreBringsEverythingBack();
         restoreBringsTheListBack();
-        System.out.println(wrong == 0 ? "all promises hold" : wrong + " answers are not as due");
-        if (wrong != 0) {
-            System.exit(1);
-        }
-    }
-
-    private static void due(String call, long got, long want) {
-        if (got != want) {
-            wrong++;
-            System.out.println(promise + ": " + call + " answered " + got + ", due is " + want);
-        }
+        finish("all promises hold");
     }
 
     // ---- promise 1
 
     private static void newObject() {
-        promise = "promise 1";
+        about = "promise 1";
         ExcuseTariffs x = new ExcuseTariffs();
         int[] counts = {40, 25, 3, 5, 4, 0, 0, 0, 0, 0, 0, 0, 0, 0, 0, 50, 0, 0, 0, 0};
         for (int what = 0; what < counts.length; what++) {
@@ -91,7 +77,7 @@ public final class PromiseTests {
     }
 
     private static void newObjectsShareNothing() {
-        promise = "promise 1";
+        about = "promise 1";
         ExcuseTariffs x = new ExcuseTariffs();
         ExcuseTariffs y = new ExcuseTariffs();
         x.set(0, 77);
@@ -110,7 +96,7 @@ public final class PromiseTests {
     }
 
     private static void constants() {
-        promise = "constants";
+        about = "constants";
         due("NO_SUCH", ExcuseTariffs.NO_SUCH, -1);
         due("BAD_VALUE", ExcuseTariffs.BAD_VALUE, -2);
         due("BAD_TEXT", ExcuseTariffs.BAD_TEXT, -3);
@@ -127,7 +113,7 @@ public final class PromiseTests {
     // ---- promise 2
 
     private static void set() {
-        promise = "promise 2";
+        about = "promise 2";
         int[] first = {40, 25, 3, 5, 4};
         int[] least = {1, 0, 1, 1, 0};
         int[] most = {99, 50, 9, 60, 20};
@@ -151,7 +137,7 @@ public final class PromiseTests {
 
     /** Each setting does what the document says of it. */
     private static void settingsCount() {
-        promise = "promise 2";
+        about = "promise 2";
         ExcuseTariffs x = new ExcuseTariffs();
         x.add(0, 50);
         x.set(ExcuseTariffs.NEEDS, 51);
@@ -178,7 +164,7 @@ public final class PromiseTests {
     // ---- promise 3
 
     private static void add() {
-        promise = "promise 3";
+        about = "promise 3";
         ExcuseTariffs x = new ExcuseTariffs();
         due("kind -1", x.add(-1, 1), BAD_VALUE);
         due("kind 5", x.add(5, 1), BAD_VALUE);
@@ -207,7 +193,7 @@ public final class PromiseTests {
     // ---- promise 4
 
     private static void worth() {
-        promise = "promise 4";
+        about = "promise 4";
         ExcuseTariffs x = new ExcuseTariffs();
         due("no list", x.worth(0, 5), NO_SUCH);
         due("no list and bad", x.worth(0, 0), NO_SUCH);
@@ -231,7 +217,7 @@ public final class PromiseTests {
     // ---- promise 5
 
     private static void offerErrors() {
-        promise = "promise 5";
+        about = "promise 5";
         ExcuseTariffs x = new ExcuseTariffs();
         due("no excuse", x.offer(0, 0, NONE, 1), NO_SUCH);
         x.add(0, 99);
@@ -270,7 +256,7 @@ public final class PromiseTests {
     }
 
     private static void offerStamped() {
-        promise = "promise 5";
+        about = "promise 5";
         ExcuseTariffs x = new ExcuseTariffs();
         x.add(2, 90);
         due("with a witness, 30 minutes", x.offer(4, 0, 7, 30), 0);
@@ -294,7 +280,7 @@ public final class PromiseTests {
     }
 
     private static void offerUsedUp() {
-        promise = "promise 5";
+        about = "promise 5";
         ExcuseTariffs x = easySchool();
         x.set(ExcuseTariffs.LIMIT, 2);
         due("first use", x.offer(0, 0, NONE, 1), 0);
@@ -312,7 +298,7 @@ public final class PromiseTests {
     }
 
     private static void offerSameKind() {
-        promise = "promise 5";
+        about = "promise 5";
         ExcuseTariffs x = easySchool();
         x.add(0, 50);
         due("first", x.offer(3, 0, NONE, 1), 0);
@@ -334,7 +320,7 @@ public final class PromiseTests {
     }
 
     private static void offerWitnessWithoutCredit() {
-        promise = "promise 5";
+        about = "promise 5";
         ExcuseTariffs x = easySchool();
         for (int p = 0; p < 5; p++) {
             due("stands by " + p, x.offer(p, 0, 9, 1), 0);
@@ -350,7 +336,7 @@ public final class PromiseTests {
     }
 
     private static void offerTooLight() {
-        promise = "promise 5";
+        about = "promise 5";
         ExcuseTariffs x = new ExcuseTariffs();
         x.add(0, 30);
         x.add(1, 35);
@@ -371,7 +357,7 @@ public final class PromiseTests {
     }
 
     private static void offerReasonsInOrder() {
-        promise = "promise 5";
+        about = "promise 5";
         ExcuseTariffs x = new ExcuseTariffs();
         x.set(ExcuseTariffs.LIMIT, 1);
         x.add(0, 99);
@@ -393,7 +379,7 @@ public final class PromiseTests {
     }
 
     private static void offerLimits() {
-        promise = "promise 5";
+        about = "promise 5";
         ExcuseTariffs x = new ExcuseTariffs();
         x.add(0, 99);
         x.offer(0, 0, NONE, 1);
@@ -407,21 +393,10 @@ public final class PromiseTests {
         due("grudge stays 9", x.pupil(1, 6), 9);
     }
 
-    /** Two excuses of different kinds that do not wear off and are heavy enough, and a grudge that costs nothing. */
-    private static ExcuseTariffs easySchool() {
-        ExcuseTariffs x = new ExcuseTariffs();
-        x.set(ExcuseTariffs.WEARS, 0);
-        x.set(ExcuseTariffs.GRUDGE, 0);
-        x.set(ExcuseTariffs.LIMIT, 9);
-        x.add(0, 80);
-        x.add(1, 80);
-        return x;
-    }
-
     // ---- promise 6
 
     private static void pay() {
-        promise = "promise 6";
+        about = "promise 6";
         ExcuseTariffs x = new ExcuseTariffs();
         x.add(0, 1);
         due("nothing owed", x.pay(0, 1), NOT_POSSIBLE);
@@ -453,7 +428,7 @@ public final class PromiseTests {
     // ---- promise 7
 
     private static void endTerm() {
-        promise = "promise 7";
+        about = "promise 7";
         ExcuseTariffs x = easySchool();
         due("empty term", x.endTerm(), 0);
         x.offer(0, 0, NONE, 40);
@@ -481,7 +456,7 @@ public final class PromiseTests {
     }
 
     private static void endTermHalvesAndCaps() {
-        promise = "promise 7";
+        about = "promise 7";
         ExcuseTariffs x = new ExcuseTariffs();
         x.add(0, 1);
         for (int i = 0; i < 9; i++) {
@@ -507,7 +482,7 @@ public final class PromiseTests {
     // ---- promise 8
 
     private static void read() {
-        promise = "promise 8";
+        about = "promise 8";
         ExcuseTariffs x = easySchool();
         due("empty pad", x.read(), BAD_TEXT);
         putText(x, "0am5,1bm31w2,9lm99,2am1w0");
@@ -538,7 +513,7 @@ public final class PromiseTests {
 
     /** Each offer of the pad meets what those before it left behind. */
     private static void readRefusals() {
-        promise = "promise 8";
+        about = "promise 8";
         ExcuseTariffs x = new ExcuseTariffs();
         x.add(0, 60);
         x.add(1, 40);
@@ -572,7 +547,7 @@ public final class PromiseTests {
     }
 
     private static void readMinutes() {
-        promise = "promise 8";
+        about = "promise 8";
         ExcuseTariffs x = new ExcuseTariffs();
         x.set(ExcuseTariffs.FINE, 1);
         x.add(0, 1);
@@ -596,7 +571,7 @@ public final class PromiseTests {
     // ---- promise 9
 
     private static void excuse() {
-        promise = "promise 9";
+        about = "promise 9";
         ExcuseTariffs x = easySchool();
         x.add(4, 7);
         due("kind", x.excuse(2, 0), 4);
@@ -628,7 +603,7 @@ public final class PromiseTests {
     // ---- promise 10
 
     private static void pupil() {
-        promise = "promise 10";
+        about = "promise 10";
         ExcuseTariffs x = easySchool();
         x.offer(6, 0, 3, 40);
         x.offer(6, 1, NONE, 1);
@@ -659,7 +634,7 @@ public final class PromiseTests {
     // ---- promise 11
 
     private static void novelty() {
-        promise = "promise 11";
+        about = "promise 11";
         ExcuseTariffs x = new ExcuseTariffs();
         due("no excuse", x.novelty(0, 0), NO_SUCH);
         x.set(ExcuseTariffs.GRUDGE, 0);
@@ -695,7 +670,7 @@ public final class PromiseTests {
     // ---- promise 12
 
     private static void why() {
-        promise = "promise 12";
+        about = "promise 12";
         ExcuseTariffs x = easySchool();
         due("stamp", x.why(0, 0, NONE, 99), 0);
         due("stamp with a witness", x.why(0, 0, 1, 99), 0);
@@ -718,7 +693,7 @@ public final class PromiseTests {
     // ---- promise 13
 
     private static void weight() {
-        promise = "promise 13";
+        about = "promise 13";
         ExcuseTariffs x = new ExcuseTariffs();
         x.add(0, 99);
         x.add(1, 1);
@@ -747,7 +722,7 @@ public final class PromiseTests {
     }
 
     private static void weightWithWitness() {
-        promise = "promise 13";
+        about = "promise 13";
         ExcuseTariffs x = easySchool();
         int[] classmates = {3, 2, 1, 0, 0, 0};
         for (int used = 0; used < 6; used++) {
@@ -765,7 +740,7 @@ public final class PromiseTests {
     // ---- promise 14
 
     private static void count() {
-        promise = "promise 14";
+        about = "promise 14";
         ExcuseTariffs x = new ExcuseTariffs();
         x.set(2, 1);
         x.set(0, 45);
@@ -796,7 +771,7 @@ public final class PromiseTests {
     }
 
     private static void countWornOut() {
-        promise = "promise 14";
+        about = "promise 14";
         ExcuseTariffs x = new ExcuseTariffs();
         x.set(ExcuseTariffs.WEARS, 30);
         x.set(ExcuseTariffs.NEEDS, 1);
@@ -833,7 +808,7 @@ public final class PromiseTests {
     // ---- promise 15
 
     private static void bestExcuse() {
-        promise = "promise 15";
+        about = "promise 15";
         ExcuseTariffs x = new ExcuseTariffs();
         due("no excuses", x.bestExcuse(0, 1), NONE);
         x.add(0, 39);
@@ -861,7 +836,7 @@ public final class PromiseTests {
     }
 
     private static void bestExcusePassesOverRefused() {
-        promise = "promise 15";
+        about = "promise 15";
         ExcuseTariffs x = easySchool();
         x.set(ExcuseTariffs.LIMIT, 1);
         x.add(2, 50);
@@ -890,7 +865,7 @@ public final class PromiseTests {
     // ---- promise 16
 
     private static void bestWitness() {
-        promise = "promise 16";
+        about = "promise 16";
         ExcuseTariffs x = easySchool();
         due("of other classes the lowest", x.bestWitness(0, 0, 1), 2);
         due("for another", x.bestWitness(2, 0, 1), 0);
@@ -954,7 +929,7 @@ public final class PromiseTests {
     // ---- promise 17
 
     private static void mostMinutes() {
-        promise = "promise 17";
+        about = "promise 17";
         ExcuseTariffs x = new ExcuseTariffs();
         due("no excuse", x.mostMinutes(0, 0), NO_SUCH);
         x.add(0, 39);
@@ -985,7 +960,7 @@ public final class PromiseTests {
     // ---- promise 18
 
     private static void put() {
-        promise = "promise 18";
+        about = "promise 18";
         ExcuseTariffs x = new ExcuseTariffs();
         due("one character", x.put('0'), 1);
         due("two characters", x.put(('a' << 8) | 'm'), 3);
@@ -1009,7 +984,7 @@ public final class PromiseTests {
     }
 
     private static void putErrors() {
-        promise = "promise 18";
+        about = "promise 18";
         ExcuseTariffs x = new ExcuseTariffs();
         due("none", x.put(0), BAD_VALUE);
         due("code 32", x.put(32), BAD_VALUE);
@@ -1031,24 +1006,10 @@ public final class PromiseTests {
         due("nothing was put", x.count(18), 0);
     }
 
-    private static long packed(String text) {
-        long characters = 0;
-        for (int i = 0; i < text.length(); i++) {
-            characters = (characters << 8) | text.charAt(i);
-        }
-        return characters;
-    }
-
-    private static void putText(ExcuseTariffs x, String text) {
-        for (int i = 0; i < text.length(); i += 8) {
-            x.put(packed(text.substring(i, Math.min(text.length(), i + 8))));
-        }
-    }
-
     // ---- promise 19
 
     private static void wipe() {
-        promise = "promise 19";
+        about = "promise 19";
         ExcuseTariffs x = new ExcuseTariffs();
         due("empty", x.wipe(), 0);
         putText(x, "0am1,zz");
@@ -1072,7 +1033,7 @@ public final class PromiseTests {
     }
 
     private static void faultAtEachPlace() {
-        promise = "promise 20";
+        about = "promise 20";
         String[] good = {"0am1", "9lm99", "5fm10", "0am1w1", "1bm90w9", "0am1,0am1", "0am12w3,4lm5w6,7cm8", "3dm3w0,0am3w3"};
         for (String text : good) {
             faultOf(text, NONE);
@@ -1109,7 +1070,7 @@ public final class PromiseTests {
     }
 
     private static void faultTooEarly() {
-        promise = "promise 20";
+        about = "promise 20";
         due("empty", new ExcuseTariffs().fault(), 0);
         String text = "0am1w1,1lm23,";
         boolean[] whole = {false, false, false, false, true, false, true, false, false, false, false, true, true, false};
@@ -1119,7 +1080,7 @@ public final class PromiseTests {
     }
 
     private static void faultOfWitness() {
-        promise = "promise 20";
+        about = "promise 20";
         for (int p = 0; p < 10; p++) {
             for (int w = 0; w < 10; w++) {
                 faultOf(p + "am7w" + w, p == w ? 5 : NONE);
@@ -1143,7 +1104,7 @@ public final class PromiseTests {
     // ---- promise 21
 
     private static void undo() {
-        promise = "promise 21";
+        about = "promise 21";
         ExcuseTariffs x = new ExcuseTariffs();
         due("nothing", x.undo(), NOT_POSSIBLE);
         x.add(0, 99);
@@ -1171,7 +1132,7 @@ public final class PromiseTests {
     }
 
     private static void undoOfEachChange() {
-        promise = "promise 21";
+        about = "promise 21";
         ExcuseTariffs x = new ExcuseTariffs();
         x.add(0, 50);
         x.set(0, 1);
@@ -1210,7 +1171,7 @@ public final class PromiseTests {
     }
 
     private static void undoHistory() {
-        promise = "promise 21";
+        about = "promise 21";
         ExcuseTariffs x = new ExcuseTariffs();
         for (int i = 1; i <= 20; i++) {
             x.set(0, i);
@@ -1236,7 +1197,7 @@ public final class PromiseTests {
     }
 
     private static void errorsRecordNothing() {
-        promise = "promise 21";
+        about = "promise 21";
         ExcuseTariffs x = new ExcuseTariffs();
         x.set(0, 100);
         x.add(5, 1);
@@ -1269,7 +1230,7 @@ public final class PromiseTests {
     // ---- promise 22
 
     private static void save() {
-        promise = "promise 22";
+        about = "promise 22";
         ExcuseTariffs x = new ExcuseTariffs();
         due("slot -1", x.save(-1), BAD_VALUE);
         due("slot 2", x.save(2), BAD_VALUE);
@@ -1297,7 +1258,7 @@ public final class PromiseTests {
     // ---- promise 23
 
     private static void restore() {
-        promise = "promise 23";
+        about = "promise 23";
         ExcuseTariffs x = new ExcuseTariffs();
         due("slot -1", x.restore(-1), BAD_VALUE);
         due("slot 2", x.restore(2), BAD_VALUE);
@@ -1322,8 +1283,20 @@ public final class PromiseTests {
     }
 
     private static void restoreBringsEverythingBack() {
-        promise = "promise 23";
-        ExcuseTariffs x = new ExcuseTariffs();
+        about = "promise 23";
+        Consumer<ExcuseTariffs> saved = PromiseTests::firstTerms;
+        Consumer<ExcuseTariffs> changed = saved.andThen(PromiseTests::laterTerms);
+        Consumer<ExcuseTariffs> restored = changed.andThen(x -> due("slot 1", x.restore(1), 1));
+        Consumer<ExcuseTariffs> undone = restored.andThen(x -> due("undo", x.undo(), 5));
+        Consumer<ExcuseTariffs> other = restored.andThen(x -> due("slot 0", x.restore(0), 2));
+        int[] before = pictureAfter(saved);
+        int[] after = pictureAfter(changed);
+        sameSchool("restored", pictureAfter(restored), before);
+        sameSchool("undone", pictureAfter(undone), after);
+        sameSchool("the other slot restored", pictureAfter(other), after);
+    }
+
+    private static void firstTerms(ExcuseTariffs x) {
         x.add(0, 70);
         x.add(1, 80);
         x.offer(0, 0, 5, 40);
@@ -1334,7 +1307,9 @@ public final class PromiseTests {
         x.offer(4, 1, 7, 31);
         x.offer(6, 0, 4, 20);
         x.save(1);
-        int[] before = picture(x);
+    }
+
+    private static void laterTerms(ExcuseTariffs x) {
         x.add(2, 5);
         x.worth(1, 3);
         x.set(0, 60);
@@ -1348,18 +1323,10 @@ public final class PromiseTests {
         x.endTerm();
         x.offer(9, 1, 2, 99);
         x.save(0);
-        int[] after = picture(x);
-        due("slot 1", x.restore(1), 1);
-        same("restored", picture(x), before);
-        due("undo", x.undo(), 5);
-        same("undone", picture(x), after);
-        x.restore(1);
-        due("slot 0", x.restore(0), 2);
-        same("restored", picture(x), after);
     }
 
     private static void restoreBringsTheListBack() {
-        promise = "promise 23";
+        about = "promise 23";
         ExcuseTariffs x = new ExcuseTariffs();
         x.save(1);
         x.add(0, 50);
@@ -1377,34 +1344,5 @@ public final class PromiseTests {
         due("add", x.add(3, 60), 0);
         due("uses in all terms", x.excuse(0, 3), 0);
         due("users", x.excuse(0, 4), 0);
-    }
-
-    /** All that can be asked of an object, but for its pad and its history. */
-    private static int[] picture(ExcuseTariffs x) {
-        int[] picture = new int[18 + 80 + 60 + 120];
-        int next = 0;
-        for (int what = 0; what < 18; what++) {
-            picture[next++] = x.count(what);
-        }
-        for (int p = 0; p < 10; p++) {
-            for (int what = 0; what < 8; what++) {
-                picture[next++] = x.pupil(p, what);
-            }
-            for (int e = 0; e < 12; e++) {
-                picture[next++] = x.novelty(p, e);
-            }
-        }
-        for (int e = 0; e < 12; e++) {
-            for (int what = 0; what < 5; what++) {
-                picture[next++] = x.excuse(e, what);
-            }
-        }
-        return picture;
-    }
-
-    private static void same(String what, int[] got, int[] want) {
-        for (int i = 0; i < want.length; i++) {
-            due(what + ", place " + i, got[i], want[i]);
-        }
     }
 }
