@@ -466,6 +466,25 @@ final class BoundariesOfOffers extends Checks {
         due("the classmate", x.pupil(1, 4), NONE);
     }
 
+    @Sentence(promise = 5, says = "Both: the kind of the excuse is the latest that the pupil offered.")
+    static void latestKindForEachReason() {
+        ExcuseTariffs x = school(99, 99, 1, 99, 99);
+        x.set(WEARS, 0);
+        x.set(LIMIT, 1);
+        standBy(x, 9, 5);
+        due("a stamp", x.offer(0, 1, NONE, 1), 0);
+        due("reason 1", x.offer(0, 0, NONE, 1), 1);
+        due("kind 0", x.pupil(0, 4), 0);
+        due("reason 3", x.offer(0, 3, 9, 1), 3);
+        due("kind 3", x.pupil(0, 4), 3);
+        due("reason 2", x.offer(0, 3, NONE, 1), 2);
+        due("kind 3", x.pupil(0, 4), 3);
+        due("reason 4", x.offer(0, 2, NONE, 1), 4);
+        due("kind 2", x.pupil(0, 4), 2);
+        due("refused offers", x.pupil(0, 3), 4);
+        due("stamps", x.pupil(0, 2), 2);
+    }
+
     @Sentence(promise = 5, says = "An object is used for at most 512 calls after it has been made")
     static void fiveHundredDearCalls() {
         ExcuseTariffs x = new ExcuseTariffs();

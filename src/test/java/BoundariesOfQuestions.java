@@ -142,6 +142,21 @@ final class BoundariesOfQuestions extends Checks {
         }
     }
 
+    @Sentence(promise = 14, says = "whose novelty is 0 for all pupils")
+    static void noveltyOfOneIsNotWornOut() {
+        ExcuseTariffs x = school(99);
+        x.set(NEEDS, 1);
+        for (int c = 0; c < 3; c++) {
+            due("a stamp", x.offer(2 * c, 0, NONE, 1), 0);
+        }
+        x.set(WEARS, 33);
+        due("100 less 3 times 33", x.novelty(9, 0), 1);
+        due("not worn out", x.count(17), 0);
+        x.set(WEARS, 34);
+        due("100 less 3 times 34", x.novelty(9, 0), 0);
+        due("worn out", x.count(17), 1);
+    }
+
     @Sentence(promise = 14, says = "17 excuses that are worn out")
     static void fromNoneToTwelveWornOut() {
         ExcuseTariffs x = new ExcuseTariffs();
@@ -152,7 +167,7 @@ final class BoundariesOfQuestions extends Checks {
         }
         due("all new", x.count(17), 0);
         for (int e = 0; e < 12; e++) {
-            due("a stamp", x.offer(0, e, NONE, 1), 0);
+            due("a stamp", x.offer(9, e, NONE, 1), 0);
             due("50 for other classes", x.count(17), e);
             due("a stamp", x.offer(2, e, NONE, 1), 0);
             due("worn out", x.count(17), e + 1);
@@ -254,15 +269,31 @@ final class BoundariesOfQuestions extends Checks {
     @Sentence(promise = 15, says = "Finds the excuse with which an offer of a pupil, without a witness, would get a stamp")
     static void heavyButRefused() {
         ExcuseTariffs x = school(99, 60, 50, 98, 40, 97);
-        x.set(LIMIT, 1);
+        x.set(WEARS, 0);
         due("the heaviest", x.bestExcuse(0, 1), 0);
         x.offer(0, 0, NONE, 1);
-        due("0 is used up, 5 is of its kind", x.bestExcuse(0, 1), 3);
-        due("0 is worn for the classmate", x.bestExcuse(1, 1), 3);
+        due("0 and 5 are of the latest kind", x.bestExcuse(0, 1), 3);
+        due("not for the classmate", x.bestExcuse(1, 1), 0);
         x.offer(0, 3, NONE, 1);
+        due("0 may be used again", x.bestExcuse(0, 1), 0);
+        x.set(LIMIT, 1);
         due("0 and 3 are used up", x.bestExcuse(0, 1), 5);
-        due("nothing happened", x.count(6), 2);
-        due("no change", x.count(19), 6);
+        due("not for the classmate", x.bestExcuse(1, 1), 0);
+        x.offer(0, 5, NONE, 1);
+        due("the heaviest that is left", x.bestExcuse(0, 1), 1);
+        due("asking is no offer", x.count(6), 3);
+    }
+
+    @Sentence(promise = 15, says = "Finds the excuse with which an offer of a pupil")
+    static void bestOfTwelve() {
+        ExcuseTariffs x = school(51, 40, 41, 42, 43, 44, 45, 46, 47, 48, 49, 50);
+        for (int p = 0; p < 10; p++) {
+            due("the first of twelve", x.bestExcuse(p, 1), 0);
+        }
+        x.worth(11, 52);
+        for (int p = 0; p < 10; p++) {
+            due("the last of twelve", x.bestExcuse(p, 1), 11);
+        }
     }
 
     @Sentence(promise = 15, says = "of a pupil, without a witness, would get a stamp")

@@ -228,6 +228,25 @@ final class BoundariesOfTerms extends Checks {
         due("a new term", x.pupil(0, 4), NONE);
     }
 
+    @Sentence(promise = 10, says = "3 refused offers so far")
+    static void refusedForEachReason() {
+        ExcuseTariffs x = easySchool();
+        x.add(2, 1);
+        x.set(LIMIT, 1);
+        standBy(x, 9, 5);
+        due("reason 1", x.offer(0, 0, NONE, 1), 1);
+        due("refused", x.pupil(0, 3), 1);
+        due("reason 4", x.offer(6, 2, NONE, 1), 4);
+        due("refused", x.pupil(6, 3), 1);
+        due("reason 2", x.offer(6, 2, NONE, 1), 2);
+        due("refused", x.pupil(6, 3), 2);
+        due("reason 3", x.offer(8, 0, 9, 1), 3);
+        due("refused", x.pupil(8, 3), 1);
+        due("not the witness", x.pupil(9, 3), 0);
+        x.endTerm();
+        due("so far, not in this term", x.pupil(6, 3), 2);
+    }
+
     @Sentence(promise = 10, says = "BAD_VALUE if what is out of range.")
     static void noSuchFactOfAPupil() {
         ExcuseTariffs x = new ExcuseTariffs();

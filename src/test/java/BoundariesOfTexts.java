@@ -126,6 +126,20 @@ final class BoundariesOfTexts extends Checks {
         due("witness 0, but not of the offer without one", x.pupil(0, 0), 3);
     }
 
+    @Sentence(promise = 8, says = "offer = pupil excuse \"m\" minutes [ \"w\" witness ]")
+    static void witnessOfOneOfferOnly() {
+        ExcuseTariffs x = easySchool();
+        putText(x, "0am1,1am1w9");
+        due("without and with", x.read(), 2);
+        due("one stood by", x.pupil(9, 0), 4);
+        putText(x, "2am1w9,3am1");
+        due("with and without", x.read(), 2);
+        due("one stood by", x.pupil(9, 0), 3);
+        putText(x, "4am1");
+        due("without", x.read(), 1);
+        due("nobody stood by", x.count(15), 48);
+    }
+
     @Sentence(promise = 8, says = "This is a change.")
     static void readIsOneChange() {
         ExcuseTariffs x = easySchool();
@@ -337,6 +351,8 @@ final class BoundariesOfTexts extends Checks {
         faultOf("00m1", 1);
         faultOf("0aM1", 2);
         faultOf("0al1", 2);
+        faultOf("0an1", 2);
+        faultOf("0az1", 2);
         faultOf("0am1W2", 4);
         faultOf("0am1v2", 4);
         faultOf("0am1x2", 4);

@@ -313,6 +313,23 @@ final class BoundariesOfUndo extends Checks {
         due("what was read does not come back", x.count(18), 0);
     }
 
+    @Sentence(promise = 21, says = "everything except the pad, the slots and the history is as it was before it.")
+    static void undoOfTheListOfExcuses() {
+        ExcuseTariffs x = new ExcuseTariffs();
+        x.add(4, 50);
+        x.save(0);
+        x.undo();
+        due("number 0 again", x.add(1, 60), 0);
+        due("kind", x.excuse(0, 0), 1);
+        due("worth", x.excuse(0, 1), 60);
+        x.restore(0);
+        due("kind of the saved one", x.excuse(0, 0), 4);
+        due("worth of the saved one", x.excuse(0, 1), 50);
+        x.undo();
+        due("kind", x.excuse(0, 0), 1);
+        due("worth", x.excuse(0, 1), 60);
+    }
+
     @Sentence(promise = 21, says = "each method that is a change, and returns no error")
     static void whatIsNoChange() {
         ExcuseTariffs x = new ExcuseTariffs();
