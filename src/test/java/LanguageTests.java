@@ -7,7 +7,6 @@ import java.nio.charset.StandardCharsets;
 import java.nio.file.Files;
 import java.nio.file.Path;
 import java.util.ArrayList;
-import java.util.Arrays;
 import java.util.List;
 import java.util.Set;
 import java.util.TreeSet;
@@ -17,17 +16,8 @@ import java.util.regex.Pattern;
 /** The public face of the document, and the rules of LANGUAGE.md that reflection or a look at the text can check. */
 public final class LanguageTests {
     private static final Path PROGRAM = Path.of("src/main/java/ExcuseTariffs.java");
+    private static final Path DOCUMENT = Path.of("../shared/DOC.md");
 
-    private static final String[] METHODS = {
-        "set(int,int)", "add(int,int)", "worth(int,int)", "offer(int,int,int,int)", "pay(int,int)", "endTerm()",
-        "read()", "excuse(int,int)", "pupil(int,int)", "novelty(int,int)", "why(int,int,int,int)",
-        "weight(int,int,int,int)", "count(int)", "bestExcuse(int,int)", "bestWitness(int,int,int)",
-        "mostMinutes(int,int)", "put(long)", "wipe()", "fault()", "undo()", "save(int)", "restore(int)"
-    };
-    private static final String[] CONSTANTS = {
-        "NO_SUCH", "BAD_VALUE", "BAD_TEXT", "TOO_MANY", "NOT_POSSIBLE", "NONE",
-        "NEEDS", "WEARS", "LIMIT", "FINE", "GRUDGE"
-    };
     private static final String[] FORBIDDEN = {
         "throw", "throws", "try", "catch", "finally", "synchronized", "assert", "volatile", "native", "import",
         "package", "yield", "var", "Object", "Exception", "System.out", "->", "::", "new Thread", "Random",
@@ -36,7 +26,12 @@ public final class LanguageTests {
 
     private static int wrong = 0;
 
-    public static void main(String[] args) throws IOException {
+    /** The public face as the document has it: each method as name(type,type), each constant as NAME = value. */
+    private static final Set<String> METHODS = new TreeSet<>();
+    private static final Set<String> CONSTANTS = new TreeSet<>();
+
+    public static void main(String[] args) throws IOException, IllegalAccessException {
+        readTheFace();
         face();
         constants();
         fields(ExcuseTariffs.class);
@@ -63,9 +58,26 @@ public final class LanguageTests {
         }
     }
 
+    private static void readTheFace() throws IOException {
+        String document = Files.readString(DOCUMENT, StandardCharsets.UTF_8);
+        String face = document.substring(document.indexOf("```java"), document.indexOf("```\n\n## Terms"));
+        check(face.contains("public final class ExcuseTariffs {"), "the face of another class");
+        Matcher constant = Pattern.compile("([A-Z_]+ = -?\\d+)[,;]").matcher(face);
+        while (constant.find()) {
+            CONSTANTS.add(constant.group(1));
+        }
+        Matcher method = Pattern.compile("public int (\\w+)\\((.*?)\\);").matcher(face);
+        while (method.find()) {
+            METHODS.add(method.group(1) + "(" + method.group(2).replaceAll(" \\w+(,) | \\w+$", "$1") + ")");
+        }
+        check(METHODS.size() == 22 && CONSTANTS.size() == 11, "the face reads " + METHODS + " " + CONSTANTS);
+    }
+
     private static void face() {
         int modifiers = ExcuseTariffs.class.getModifiers();
         check(Modifier.isPublic(modifiers) && Modifier.isFinal(modifiers), "the class is not public and final");
+        check(ExcuseTariffs.class.getSuperclass() == Object.class && ExcuseTariffs.class.getInterfaces().length == 0,
+                "the class is one of another kind");
         Set<String> seen = new TreeSet<>();
         for (Method method : ExcuseTariffs.class.getDeclaredMethods()) {
             if (Modifier.isPrivate(method.getModifiers()) || method.isSynthetic()) {
@@ -79,22 +91,22 @@ public final class LanguageTests {
             }
             seen.add(method.getName() + "(" + String.join(",", parameters) + ")");
         }
-        check(seen.equals(new TreeSet<>(Arrays.asList(METHODS))), "the public methods are " + seen);
+        check(seen.equals(METHODS), "the public methods are " + seen);
         Constructor<?>[] constructors = ExcuseTariffs.class.getDeclaredConstructors();
         check(constructors.length == 1 && constructors[0].getParameterCount() == 0
                 && Modifier.isPublic(constructors[0].getModifiers()), "the constructors");
     }
 
-    private static void constants() {
+    private static void constants() throws IllegalAccessException {
         Set<String> seen = new TreeSet<>();
         for (Field field : ExcuseTariffs.class.getDeclaredFields()) {
             if (!Modifier.isPrivate(field.getModifiers())) {
-                seen.add(field.getName());
                 check(field.getModifiers() == (Modifier.PUBLIC | Modifier.STATIC | Modifier.FINAL)
                         && field.getType() == int.class, "no constant: " + field);
+                seen.add(field.getName() + " = " + field.get(null));
             }
         }
-        check(seen.equals(new TreeSet<>(Arrays.asList(CONSTANTS))), "the constants are " + seen);
+        check(seen.equals(CONSTANTS), "the constants are " + seen);
     }
 
     private static void fields(Class<?> type) {
